@@ -135,6 +135,7 @@ public final class AlphabetTest {
         Check.fails("P5 rest that begins a row", Check.letters(1, 1234, 2341, 2343).isClear());
         Check.holds("P5 rests without an end", Check.letters(1, 12, 22).isClear());
         Check.fails("P5 rests of rests", Check.letters(1, 12, 23, 34, 41).isClear());
+        Check.fails("P5 the greatest rest", Check.letters(1, 1444, 444).isClear());
         Check.holds("P5 rests of rests, none comes back", Check.letters(1, 12, 23, 34).isClear());
         KnotLetters x = Check.letters(12, 1, 2);
         Check.fails("P5 ahead", x.isClear());

@@ -78,6 +78,13 @@ public final class CordTest {
         order.setFeel(1, 2, 0);
         reading(order, "1212", "cc", 0);
         reading(order, "121", "ac", 0);
+        KnotLetters ties = Check.letters(12, 4, 24);
+        ties.setCosts(4, 3);
+        reading(ties, "1324", "ab", 3);
+        KnotLetters late = Check.letters(12, 231, 3);
+        reading(late, "1223", "acc", 3);
+        late.setFeel(2, 3, 9);
+        reading(late, "1223", "ab", 4);
         KnotLetters long0 = Check.letters(1);
         reading(long0, "1".repeat(40), "a".repeat(40), 0);
         long0.setFeel(1, 4, 9);
@@ -105,6 +112,11 @@ public final class CordTest {
         Check.same("P15 kinds that cost nothing are different", x.cord(cord, 6), 0);
         x.setLetter(11, 13);
         Check.same("P15 last letter", x.cord(cord, 6), 1);
+        KnotLetters ends = Check.letters(1, 11, 1111, 12);
+        cord = Check.cordOf(ends, "1".repeat(40));
+        Check.same("P15 rows of a full cord", ends.cord(cord, 6), 1000000);
+        Check.cordOf(ends, "111511");
+        Check.same("P15 no letter goes beyond a word", ends.cord(1, 6), 6);
         KnotLetters none = new KnotLetters();
         Check.cordOf(none, "1");
         Check.cordOf(none, "555");

@@ -8,6 +8,9 @@ public final class ReadingTest {
             smallWord(random);
         }
         for (int i = 0; i < 4000; i++) {
+            longerWord(random);
+        }
+        for (int i = 0; i < 4000; i++) {
             alphabet(random);
         }
         Check.end("ReadingTest");
@@ -21,34 +24,59 @@ public final class ReadingTest {
         return row;
     }
 
+    /** A word of at most 5 knots, against all rows of letters, also such with one letter more than knots. */
     private static void smallWord(Random random) {
         KnotLetters x = new KnotLetters();
         Model model = new Model();
         int kinds = 1 + random.nextInt(4);
-        StringBuilder all = new StringBuilder();
-        for (int i = 0; i < 4; i++) {
+        String letters = letters(random, x, model, 4, kinds);
+        costs(random, x, model, 1 + random.nextInt(9));
+        String word = word(random, random.nextInt(6), kinds);
+        Check.cordOf(x, word);
+        compare(letters + ", reading of " + word, x, 0, model, model.bestOfAll(word, word.length() + 1), word);
+    }
+
+    /** Words of up to 12 knots, with small costs, so that many readings cost the same. */
+    private static void longerWord(Random random) {
+        KnotLetters x = new KnotLetters();
+        Model model = new Model();
+        int kinds = 2 + random.nextInt(3);
+        String letters = letters(random, x, model, 2 + random.nextInt(6), kinds);
+        costs(random, x, model, 1 + random.nextInt(3));
+        for (int i = 0; i < 3; i++) {
+            String word = word(random, 3 + random.nextInt(10), kinds);
+            Check.cordOf(x, word);
+            compare(letters + ", reading of " + word, x, i, model, model.best(word), word);
+        }
+    }
+
+    private static String letters(Random random, KnotLetters x, Model model, int count, int kinds) {
+        StringBuilder all = new StringBuilder("letters");
+        for (int i = 0; i < count; i++) {
             int letter = random.nextInt(12);
             int row = row(random, 4, kinds);
             x.setLetter(letter, row);
             model.setLetter(letter, row);
             all.append(' ').append((char) ('a' + letter)).append(row);
         }
-        costs(random, x, model);
-        StringBuilder word = new StringBuilder();
-        for (int knots = random.nextInt(6); knots > 0; knots--) {
-            word.append(1 + random.nextInt(kinds));
-        }
-        Check.cordOf(x, word.toString());
-        // One letter more than knots, to see that no such reading is the best.
-        String due = model.bestOfAll(word.toString(), word.length() + 1);
-        String call = "letters" + all + ", reading of " + word;
-        Check.sameText(call, Check.read(x, 0), due);
-        Check.same(call + ", cost", x.cord(0, 4), model.apart(model.meantBy(due), word.toString()));
-        Check.same(call + ", letters", x.cord(0, 5), due.length());
+        return all.toString();
     }
 
-    static void costs(Random random, KnotLetters x, Model model) {
-        int most = 1 + random.nextInt(9);
+    private static String word(Random random, int knots, int kinds) {
+        StringBuilder word = new StringBuilder();
+        for (int i = 0; i < knots; i++) {
+            word.append(1 + random.nextInt(kinds));
+        }
+        return word.toString();
+    }
+
+    private static void compare(String call, KnotLetters x, int cord, Model model, String due, String word) {
+        Check.sameText(call, Check.read(x, cord), due);
+        Check.same(call + ", cost", x.cord(cord, 4), model.apart(model.meantBy(due), word));
+        Check.same(call + ", letters", x.cord(cord, 5), due.length());
+    }
+
+    private static void costs(Random random, KnotLetters x, Model model, int most) {
         int missed = 1 + random.nextInt(most);
         int ghost = 1 + random.nextInt(most);
         Check.same("setCosts", x.setCosts(missed, ghost), model.setCosts(missed, ghost));
