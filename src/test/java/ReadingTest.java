@@ -109,7 +109,7 @@ public final class ReadingTest {
         oneWayOnly(all.toString(), x, model, kinds);
     }
 
-    /** A clear alphabet reads no row of up to 8 knots in two ways; one that is not has such a row, if a short one. */
+    /** A clear alphabet reads no short row of knots in two ways. */
     private static void oneWayOnly(String letters, KnotLetters x, Model model, int kinds) {
         if (!x.isClear()) {
             return;
