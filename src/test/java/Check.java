@@ -137,7 +137,7 @@ final class Check {
         return paper(x);
     }
 
-    /** Ties a cord of just these knots and gaps (5), by letters of one knot each; the letters and the knotter are set back. */
+    /** Ties a cord of these knots and gaps (5) by letters of one knot each; letters and knotter are set back. */
     static int cordOf(KnotLetters x, String knots) {
         int[] rows = new int[5];
         for (int i = 0; i < 4; i++) {
