@@ -1,5 +1,7 @@
 import java.nio.charset.StandardCharsets;
 import java.util.Arrays;
+import java.util.function.Consumer;
+import java.util.function.Supplier;
 
 /** What the tests share: answers that are compared, exceptions that are due, and texts on tapes and cords. */
 final class Check {
@@ -41,17 +43,40 @@ final class Check {
         same(call, got ? 1 : 0, 0);
     }
 
-    /** The call is to throw just this exception, and to change nothing of the object. */
+    /** The call is to throw just this exception, and to leave the checksum. */
     static void throwing(KnotLetters x, Class<? extends RuntimeException> due, String call, Runnable run) {
-        long before = state(x);
-        String got = "nothing";
+        long before = x.digest();
+        sameText(call + " throws:", thrownBy(run), due.getSimpleName());
+        same(call + " throws, the checksum behind it:", x.digest(), before);
+    }
+
+    private static String thrownBy(Runnable run) {
         try {
             run.run();
         } catch (RuntimeException e) {
-            got = e.getClass().getSimpleName();
+            return e.getClass().getSimpleName();
         }
-        sameText(call + " throws:", got, due.getSimpleName());
-        same(call + " throws, the state behind it:", state(x), before);
+        return "nothing";
+    }
+
+    /** The call is to throw just this exception, and to leave its object as a twin that was not asked. */
+    static void refused(Class<? extends RuntimeException> due, String call, Supplier<KnotLetters> maker,
+            Consumer<KnotLetters> run) {
+        KnotLetters asked = maker.get();
+        sameText(call + " throws:", thrownBy(() -> run.accept(asked)), due.getSimpleName());
+        sameText(call + " throws, all that is told behind it:", everything(asked), everything(maker.get()));
+    }
+
+    static void refusedIndex(String call, Supplier<KnotLetters> maker, Consumer<KnotLetters> run) {
+        refused(IndexOutOfBoundsException.class, call, maker, run);
+    }
+
+    static void refusedArgument(String call, Supplier<KnotLetters> maker, Consumer<KnotLetters> run) {
+        refused(IllegalArgumentException.class, call, maker, run);
+    }
+
+    static void refusedState(String call, Supplier<KnotLetters> maker, Consumer<KnotLetters> run) {
+        refused(IllegalStateException.class, call, maker, run);
     }
 
     static void throwsIndex(KnotLetters x, String call, Runnable run) {
@@ -66,22 +91,43 @@ final class Check {
         throwing(x, IllegalStateException.class, call, run);
     }
 
-    /** All that can be asked without a change: what is set is set back. */
-    private static long state(KnotLetters x) {
-        long d = x.digest();
-        int knotter = x.setKnotter(0, 0);
-        x.setKnotter(knotter / 100, knotter % 100);
-        int costs = x.setCosts(1, 1);
-        x.setCosts(costs / 10, costs % 10);
-        d = (d * 31 + knotter) * 31 + costs;
+    /** All that an object tells; it is of no use behind this, for letters, costs, tape and cords are changed. */
+    static String everything(KnotLetters x) {
+        StringBuilder all = new StringBuilder("digest ").append(x.digest());
+        all.append(", knotter ").append(x.setKnotter(0, 0)).append(", costs ").append(x.setCosts(4, 4));
         for (int a = 1; a <= 4; a++) {
             for (int b = a + 1; b <= 4; b++) {
-                int cost = x.setFeel(a, b, 0);
-                x.setFeel(a, b, cost);
-                d = d * 31 + cost;
+                all.append(", ").append(a).append(" for ").append(b).append(' ').append(x.setFeel(a, b, 3));
             }
         }
-        return d;
+        if (x.count(1) < 10) {
+            all.append(", tape ").append(tapeOf(x));
+        }
+        return all.toString();
+    }
+
+    /** The first twenty bytes of the tape as they are tied by letters of two knots each; -1 if they are not tied. */
+    private static String tapeOf(KnotLetters x) {
+        for (int letter = 0; letter < 12; letter++) {
+            x.setLetter(letter, 10 * (1 + letter / 4) + 1 + letter % 4);
+        }
+        x.trim(Math.min(20, x.count(5)));
+        int cord = x.tie();
+        return cord < 0 ? "-1" : knots(x, cord);
+    }
+
+    /**
+     * Runs the test of one sentence of the document. What it finds is told with the sentence; a test that
+     * looks at no answer is not as due.
+     */
+    static void sentence(String text, Runnable test) {
+        int answersBefore = answers;
+        int wrongBefore = wrong;
+        test.run();
+        holds("a test that looks at answers", answers > answersBefore);
+        if (wrong != wrongBefore) {
+            System.out.println("    of the sentence: " + text);
+        }
     }
 
     /** Puts a text of at most 80 bytes on the tape, which is to be empty. */
@@ -114,10 +160,26 @@ final class Check {
         return x;
     }
 
+    /** An alphabet, of which everything is in use: letters, knotter, costs, cords, paper and tape. */
+    static KnotLetters busy() {
+        KnotLetters x = letters(12, 3, 0, 4443, 0, 0, 0, 0, 0, 0, 0, 2);
+        x.setKnotter(5, 7);
+        x.setCosts(2, 6);
+        x.setFeel(1, 4, 7);
+        x.setFeel(2, 3, 0);
+        tied(x, "ab d l");
+        tied(x, "");
+        tied(x, " bb");
+        x.read(0);
+        tape(x, "ba lab");
+        return x;
+    }
+
     /** The knots of a cord as digits, a gap as 5. */
     static String knots(KnotLetters x, int cord) {
         StringBuilder text = new StringBuilder();
-        for (int i = 0; i < x.cord(cord, 0); i++) {
+        int size = x.cord(cord, 0);
+        for (int i = 0; i < size; i++) {
             text.append(x.knot(cord, i));
         }
         return text.toString();
@@ -125,7 +187,8 @@ final class Check {
 
     static String paper(KnotLetters x) {
         StringBuilder text = new StringBuilder();
-        for (int i = 0; i < x.count(6); i++) {
+        int size = x.count(6);
+        for (int i = 0; i < size; i++) {
             text.append((char) x.byteAt(i));
         }
         return text.toString();
